@@ -21,6 +21,7 @@ public final class DoubleTexts {
     private static final int INFINITE = 3;
     private static final int NAN = 4;
 
+    private static final int LONG_BITS = 64;
     private static final int SIGNIFICAND_BITS = 53;
     private static final long SIGNIFICAND_END = 1L << SIGNIFICAND_BITS;
     private static final int LEAST_PLACE = -1074;
@@ -52,39 +53,35 @@ public final class DoubleTexts {
     private static final String INFINITE_NAME = "inf.0";
     private static final String NAN_NAME = "nan.0";
 
-    private final byte[] text;
-    private int textLength;
+    private final Numeral text;
     private final Line output;
     private final Value number;
-    private final Numeral numeral;
     private final Shortest shortest;
     private final Natural spare;
 
     public DoubleTexts() {
-        text = new byte[TEXT_LIMIT];
-        textLength = 0;
+        text = new Numeral();
         output = new Line();
         number = new Value();
-        numeral = new Numeral(text, number.top, number.bottom);
         shortest = new Shortest();
         spare = new Natural();
     }
 
     public int type(int code) {
-        if (code < 0 || code > 127 || textLength >= TEXT_LIMIT) {
+        boolean fits = code >= 0 && code <= 127 && text.length < TEXT_LIMIT;
+        if (!fits) {
             return -1;
         }
-        text[textLength] = (byte) code;
-        textLength++;
-        return textLength;
+        text.append(code);
+        return text.length;
     }
 
     public void clear() {
-        textLength = 0;
+        text.length = 0;
     }
 
     public int read() {
-        switch (numeral.parse(textLength)) {
+        switch (text.parse()) {
             case INTEGER_FORM:
             case FRACTION_FORM:
                 takeRatio();
@@ -93,7 +90,7 @@ public final class DoubleTexts {
                 takeDecimal();
                 break;
             case INFINITE_FORM:
-                number.setInfinite(numeral.minus);
+                number.setInfinite(text.minus);
                 break;
             case NAN_FORM:
                 number.setNan();
@@ -189,32 +186,36 @@ public final class DoubleTexts {
     }
 
     public int out(int i) {
-        return i >= 0 && i < output.length ? output.codes[i] : -1;
+        return i >= 0 && i < output.length && i < output.codes.length ? output.codes[i] : -1;
     }
 
     public boolean back() {
         if (output.length > TEXT_LIMIT) {
             return false;
         }
-        System.arraycopy(output.codes, 0, text, 0, output.length);
-        textLength = output.length;
+        text.length = 0;
+        for (int i = 0; i < output.length; i++) {
+            text.append(output.codes[i]);
+        }
         return true;
     }
 
     private void takeRatio() {
-        if (numeral.exactness == 'i') {
-            number.roundRatio(numeral.minus, 0);
+        number.setParts(text.top, text.bottom);
+        if (text.exactness == 'i') {
+            number.roundRatio(text.minus, 0);
         } else {
             number.reduce();
-            number.settleExact(numeral.minus);
+            number.settleExact(text.minus);
         }
     }
 
     private void takeDecimal() {
-        if (numeral.exactness == 'e') {
-            number.takeExactDecimal(numeral.minus, numeral.tens);
+        number.setParts(text.top, text.bottom);
+        if (text.exactness == 'e') {
+            number.takeExactDecimal(text.minus, text.tens);
         } else {
-            number.roundDecimal(numeral.minus, numeral.tens);
+            number.roundDecimal(text.minus, text.tens);
         }
     }
 
@@ -362,6 +363,11 @@ public final class DoubleTexts {
             exponent = 0;
         }
 
+        void setParts(Natural newTop, Natural newBottom) {
+            top.copy(newTop);
+            bottom.copy(newBottom);
+        }
+
         void setNone() {
             state = NONE;
             minus = false;
@@ -400,9 +406,9 @@ public final class DoubleTexts {
 
         /** The double nearest to units * 2^place, or to a little more than that. */
         void roundUnits(boolean isMinus, long units, int place, boolean more) {
-            int length = Long.SIZE - Long.numberOfLeadingZeros(units);
+            int length = LONG_BITS - Long.numberOfLeadingZeros(units);
             int drop = Math.max(length - SIGNIFICAND_BITS, LEAST_PLACE - place);
-            if (length == 0 || drop >= Long.SIZE) {
+            if (length == 0 || drop >= LONG_BITS) {
                 setZero(isMinus);
                 return;
             }
@@ -551,12 +557,12 @@ public final class DoubleTexts {
         }
     }
 
-    /** The text of a number, taken from its first character to its last. */
+    /** The text, and what number it tells. */
     private static final class Numeral {
-        private final byte[] text;
-        private final Natural top;
-        private final Natural bottom;
-        private int length;
+        private final byte[] codes;
+        int length;
+        final Natural top;
+        final Natural bottom;
         private int at;
         private int base;
         private boolean signed;
@@ -564,15 +570,22 @@ public final class DoubleTexts {
         int exactness;
         int tens;
 
-        Numeral(byte[] newText, Natural newTop, Natural newBottom) {
-            text = newText;
-            top = newTop;
-            bottom = newBottom;
+        Numeral() {
+            codes = new byte[TEXT_LIMIT];
+            length = 0;
+            top = new Natural();
+            bottom = new Natural();
+        }
+
+        void append(int code) {
+            if (length >= 0 && length < codes.length) {
+                codes[length] = (byte) code;
+                length++;
+            }
         }
 
         /** The form of the text; top and bottom become what its digits tell, and a decimal's value is top * 10^tens. */
-        int parse(int newLength) {
-            length = newLength;
+        int parse() {
             at = 0;
             base = 0;
             exactness = 0;
@@ -735,7 +748,7 @@ public final class DoubleTexts {
 
         private int peek(int ahead) {
             int index = at + ahead;
-            return index >= 0 && index < length && index < text.length ? text[index] : -1;
+            return index >= 0 && index < length && index < codes.length ? codes[index] : -1;
         }
     }
 
@@ -798,7 +811,7 @@ public final class DoubleTexts {
 
         /** Finds the point with 10^(point - 1) <= value < 10^point, and divides the value by 10^point. */
         private void scaleByTens(long significand, int exponent) {
-            int twos = Long.SIZE - 1 - Long.numberOfLeadingZeros(significand) + exponent;
+            int twos = LONG_BITS - 1 - Long.numberOfLeadingZeros(significand) + exponent;
             // 78913 / 2^18 is a little below the logarithm of 2: the guess is never above the point.
             point = (twos * 78913) >> 18;
             unit.multiplyTens(point);
@@ -909,7 +922,7 @@ public final class DoubleTexts {
             }
             for (int i = size - 1; i >= 0; i--) {
                 if (limbs[i] != other.limbs[i]) {
-                    return Integer.compareUnsigned(limbs[i], other.limbs[i]);
+                    return (limbs[i] & LIMB_MASK) < (other.limbs[i] & LIMB_MASK) ? -1 : 1;
                 }
             }
             return 0;
