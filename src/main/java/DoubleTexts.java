@@ -125,7 +125,7 @@ public final class DoubleTexts {
         if (number.state != FINITE) {
             return false;
         }
-        number.turnExact();
+        number.turnToRatio();
         return true;
     }
 
@@ -168,7 +168,7 @@ public final class DoubleTexts {
         output.length = 0;
         switch (number.state) {
             case EXACT:
-                writeExact(base);
+                writeRatio(base);
                 break;
             case FINITE:
                 writeFinite();
@@ -206,20 +206,20 @@ public final class DoubleTexts {
             number.roundRatio(text.minus, 0);
         } else {
             number.reduce();
-            number.settleExact(text.minus);
+            number.settleRatio(text.minus);
         }
     }
 
     private void takeDecimal() {
         number.setParts(text.top, text.bottom);
         if (text.exactness == 'e') {
-            number.takeExactDecimal(text.minus, text.tens);
+            number.takeDecimalRatio(text.minus, text.tens);
         } else {
             number.roundDecimal(text.minus, text.tens);
         }
     }
 
-    private void writeExact(int base) {
+    private void writeRatio(int base) {
         if (number.minus) {
             output.append('-');
         }
@@ -395,7 +395,7 @@ public final class DoubleTexts {
         }
 
         /** The ratio top / bottom, which is in lowest terms, becomes the number. */
-        void settleExact(boolean isMinus) {
+        void settleRatio(boolean isMinus) {
             if (top.bitLength() > EXACT_BITS || bottom.bitLength() > EXACT_BITS) {
                 setNone();
                 return;
@@ -472,10 +472,10 @@ public final class DoubleTexts {
         }
 
         /** The number becomes top * 10^tens, or none if that has too many bits. */
-        void takeExactDecimal(boolean isMinus, int tens) {
+        void takeDecimalRatio(boolean isMinus, int tens) {
             bottom.setUnsigned(1);
             if (top.isZero()) {
-                settleExact(isMinus);
+                settleRatio(isMinus);
                 return;
             }
             if (tens > MOST_EXACT_TENS || tens < FEWEST_EXACT_TENS) {
@@ -488,7 +488,7 @@ public final class DoubleTexts {
             } else {
                 divideByTens(-tens);
             }
-            settleExact(isMinus);
+            settleRatio(isMinus);
         }
 
         /** Only twos and fives can be common with a power of ten, which is far cheaper than the common way. */
@@ -506,7 +506,7 @@ public final class DoubleTexts {
         }
 
         /** The finite double becomes the exact number with its value. */
-        void turnExact() {
+        void turnToRatio() {
             top.setUnsigned(significand);
             bottom.setUnsigned(1);
             if (!top.isZero() && exponent >= 0) {
@@ -516,7 +516,7 @@ public final class DoubleTexts {
                 top.shiftRight(common);
                 bottom.shiftLeft(-exponent - common);
             }
-            settleExact(minus);
+            settleRatio(minus);
         }
 
         /** Brings top / bottom, of which bottom is not 0, to lowest terms. */
