@@ -306,7 +306,7 @@ public final class DoubleTexts {
             int start = length;
             int chunk = base;
             int chunkDigits = 1;
-            for (; chunk > 1 && chunk < CHUNK_LIMIT; chunkDigits++) {
+            for (; chunkDigits < 32 && chunk > 1 && chunk < CHUNK_LIMIT; chunkDigits++) {
                 chunk *= base;
             }
             if (value.isZero()) {
