@@ -1,4 +1,7 @@
-/** Numbers read from their texts, exactly or as the nearest double, and doubles written with the fewest digits. */
+/**
+ * Numbers read from their texts, exactly or as the nearest double, and doubles written with the fewest digits that tell
+ * them.
+ */
 public final class DoubleTexts {
     private static final int TEXT_LIMIT = 400;
     private static final int EXACT_BITS = 4096;
@@ -194,7 +197,7 @@ public final class DoubleTexts {
             return false;
         }
         text.length = 0;
-        for (int i = 0; i < output.length; i++) {
+        for (int i = 0; i < output.length && i < output.codes.length; i++) {
             text.append(output.codes[i]);
         }
         return true;
