@@ -1,4 +1,4 @@
-/** What the tests share: answers compared with what is due, texts typed and outputs taken. */
+/** What the tests share: answers compared with what is due. */
 final class Check {
     private static final int SHOWN = 50;
 
@@ -12,6 +12,11 @@ final class Check {
 
     void due(String call, long got, long want) {
         due(call, Long.toString(got), Long.toString(want));
+    }
+
+    /** A boolean that a Subject answers as 1 or 0. */
+    void due(String call, long got, boolean want) {
+        due(call, got, want ? 1 : 0);
     }
 
     void due(String call, boolean got, boolean want) {
@@ -36,43 +41,9 @@ final class Check {
         }
     }
 
-    static DoubleTexts typed(String text) {
-        DoubleTexts object = new DoubleTexts();
-        retype(object, text);
-        return object;
-    }
-
-    static void retype(DoubleTexts object, String text) {
-        object.clear();
-        for (int i = 0; i < text.length(); i++) {
-            object.type(text.charAt(i));
-        }
-    }
-
-    /** An object that has read the text. */
-    static DoubleTexts having(String text) {
-        DoubleTexts object = typed(text);
-        object.read();
-        return object;
-    }
-
-    /** The output, up to the first character that is none. */
-    static String output(DoubleTexts object) {
-        StringBuilder all = new StringBuilder();
-        for (int i = 0; object.out(i) != -1; i++) {
-            all.append((char) object.out(i));
-        }
-        return all.toString();
-    }
-
-    static String written(DoubleTexts object, int base) {
-        int length = object.write(base);
-        return length == -1 ? "-1" : output(object);
-    }
-
     /** The number as the answers of kind, negative, units and place tell it. */
-    static String told(DoubleTexts object) {
-        return object.kind() + " " + object.negative() + " " + object.units() + " " + object.place();
+    static String told(Subject x) {
+        return x.kind() + " " + (x.negative() == 1) + " " + x.units() + " " + x.place();
     }
 
     /** The same for a double of Java. */

@@ -16,7 +16,7 @@ public final class DoublesTest {
     }
 
     private static void made(boolean negative, long units, int place, double value) {
-        DoubleTexts x = new DoubleTexts();
+        Subject x = new Subject();
         String call = "make(" + negative + ", " + units + ", " + place + ")";
         CHECK.due(call, x.make(negative, units, place), true);
         CHECK.due("number of " + call, Check.told(x), Check.told(value));
@@ -59,7 +59,7 @@ public final class DoublesTest {
     }
 
     private static void makeRefuses() {
-        DoubleTexts x = Check.having("-1.5");
+        Subject x = Subject.having("-1.5");
         String before = Check.told(x);
         CHECK.due("make(false, -1, 0)", x.make(false, -1, 0), false);
         CHECK.due("make(true, least, 0)", x.make(true, Long.MIN_VALUE, 0), false);
@@ -71,7 +71,7 @@ public final class DoublesTest {
     }
 
     private static void divided(long n, long d, double value) {
-        DoubleTexts x = new DoubleTexts();
+        Subject x = new Subject();
         CHECK.due("divide(" + n + ", " + d + ")", x.divide(n, d), true);
         CHECK.due("number of divide(" + n + ", " + d + ")", Check.told(x), Check.told(value));
     }
@@ -92,21 +92,21 @@ public final class DoublesTest {
         divided(Long.MAX_VALUE, Long.MAX_VALUE, 1);
         divided(2 * TOP + 3, 2, TOP + 2);
         divided(2 * TOP + 2, 2, TOP);
-        DoubleTexts x = Check.having("7/3");
+        Subject x = Subject.having("7/3");
         CHECK.due("divide(1, 0)", x.divide(1, 0), false);
         CHECK.due("divide(0, 0)", x.divide(0, 0), false);
         CHECK.due("divide(1, -1)", x.divide(1, -1), false);
         CHECK.due("divide(1, least)", x.divide(1, Long.MIN_VALUE), false);
-        CHECK.due("number after divide refused", Check.written(x, 10), "7/3");
+        CHECK.due("number after divide refused", x.written(10), "7/3");
     }
 
     private static void exactOf(String text, String written) {
-        DoubleTexts x = Check.having(text);
+        Subject x = Subject.having(text);
         CHECK.due("exact() of " + text, x.exact(), true);
         CHECK.due("kind() after it", x.kind(), 1);
-        CHECK.due("write(10) after it", Check.written(x, 10), written);
+        CHECK.due("write(10) after it", x.written(10), written);
         CHECK.due("exact() of an exact one", x.exact(), false);
-        CHECK.due("write(10) after that", Check.written(x, 10), written);
+        CHECK.due("write(10) after that", x.written(10), written);
     }
 
     private static void exact() {
@@ -124,21 +124,21 @@ public final class DoublesTest {
         CHECK.due("negative() of exact -1.5", sign("-1.5"), true);
         String[] wrong = {"+inf.0", "-inf.0", "+nan.0", "1/2", "0", "none"};
         for (String text : wrong) {
-            DoubleTexts x = Check.having(text);
-            String before = Check.told(x) + Check.written(x, 10);
+            Subject x = Subject.having(text);
+            String before = Check.told(x) + x.written(10);
             CHECK.due("exact() of " + text, x.exact(), false);
-            CHECK.due("number after exact() of " + text, Check.told(x) + Check.written(x, 10), before);
+            CHECK.due("number after exact() of " + text, Check.told(x) + x.written(10), before);
         }
     }
 
     private static boolean sign(String text) {
-        DoubleTexts x = Check.having(text);
+        Subject x = Subject.having(text);
         x.exact();
-        return x.negative();
+        return x.negative() == 1;
     }
 
     private static void inexactOf(String text, double value) {
-        DoubleTexts x = Check.having(text);
+        Subject x = Subject.having(text);
         CHECK.due("inexact() of " + text, x.inexact(), true);
         CHECK.due("number after it", Check.told(x), Check.told(value));
         CHECK.due("inexact() of a double", x.inexact(), false);
@@ -161,7 +161,7 @@ public final class DoublesTest {
         inexactOf("#e1797693134862315808e290", Double.POSITIVE_INFINITY);
         String[] wrong = {"1.5", "-0.0", "+inf.0", "-inf.0", "+nan.0", "none"};
         for (String text : wrong) {
-            DoubleTexts x = Check.having(text);
+            Subject x = Subject.having(text);
             String before = Check.told(x);
             CHECK.due("inexact() of " + text, x.inexact(), false);
             CHECK.due("number after inexact() of " + text, Check.told(x), before);
@@ -175,12 +175,12 @@ public final class DoublesTest {
         boolean[] signs = {false, false, false, true, true, false, false, true, false, true, false, true, false, false, true,
             false};
         for (int i = 0; i < texts.length; i++) {
-            DoubleTexts x = Check.having(texts[i]);
+            Subject x = Subject.having(texts[i]);
             CHECK.due("kind() of " + texts[i], x.kind(), kinds[i]);
             CHECK.due("negative() of " + texts[i], x.negative(), signs[i]);
         }
-        DoubleTexts x = Check.having("-1.5");
-        Check.retype(x, "none");
+        Subject x = Subject.having("-1.5");
+        x.retype("none");
         x.read();
         CHECK.due("negative() of none after a negative one", x.negative(), false);
     }
@@ -189,16 +189,16 @@ public final class DoublesTest {
         double[] values = {0.0, -0.0, 1, -1, 0.1, Double.MIN_VALUE, Double.MIN_NORMAL, Double.MIN_NORMAL / 2, Double.MAX_VALUE,
             0x1.fffffffffffffp0, 1e21, 123456};
         for (double value : values) {
-            DoubleTexts x = Check.having(Model.writtenDouble(value));
+            Subject x = Subject.having(Model.writtenDouble(value));
             CHECK.due("number of " + value, Check.told(x), Check.told(value));
         }
-        DoubleTexts x = Check.having("0.0");
+        Subject x = Subject.having("0.0");
         CHECK.due("units() of 0.0", x.units(), 0);
         CHECK.due("place() of 0.0", x.place(), -1074);
         String[] wrong = {"none", "1", "1/2", "+inf.0", "-inf.0", "+nan.0"};
         for (String text : wrong) {
-            DoubleTexts y = Check.having("1.5");
-            Check.retype(y, text);
+            Subject y = Subject.having("1.5");
+            y.retype(text);
             y.read();
             CHECK.due("units() of " + text, y.units(), -1);
             CHECK.due("place() of " + text, y.place(), 0);
@@ -210,14 +210,14 @@ public final class DoublesTest {
         int[] tops = {0, 1, 1, 8, 9, 8, 1, 32, 33, 4096, 1};
         int[] bottoms = {1, 1, 1, 1, 1, 9, 2, 1, 1, 1, 4096};
         for (int i = 0; i < texts.length; i++) {
-            DoubleTexts x = Check.having(texts[i]);
+            Subject x = Subject.having(texts[i]);
             CHECK.due("bits(false) of " + texts[i], x.bits(false), tops[i]);
             CHECK.due("bits(true) of " + texts[i], x.bits(true), bottoms[i]);
         }
         String[] wrong = {"none", "1.5", "0.0", "+inf.0", "+nan.0"};
         for (String text : wrong) {
-            DoubleTexts x = Check.having("5/3");
-            Check.retype(x, text);
+            Subject x = Subject.having("5/3");
+            x.retype(text);
             x.read();
             CHECK.due("bits(false) of " + text, x.bits(false), -1);
             CHECK.due("bits(true) of " + text, x.bits(true), -1);

@@ -77,7 +77,10 @@ public final class FaceTest {
     private static void useAll(DoubleTexts x) {
         String[] texts = {"#e-1e-1233", "#i123/456", "123456/7890", "1.5e-300", "#x+FF", "-inf.0", "+nan.0", "none", "0.1"};
         for (String text : texts) {
-            Check.retype(x, text);
+            x.clear();
+            for (int i = 0; i < text.length(); i++) {
+                x.type(text.charAt(i));
+            }
             x.read();
             x.bits(true);
             x.write(10);

@@ -1,10 +1,17 @@
 import java.math.BigDecimal;
 import java.math.BigInteger;
 
-/** Runs of up to 512 calls, chosen by a fixed row of numbers, on the class and on the model: every answer is the same. */
+/** Runs of 512 calls, chosen by a fixed row of numbers, on the class and on the model: every answer is the same. */
 public final class RandomRunsTest {
-    private static final int RUNS = 1500;
+    private static final int RUNS = 2500;
     private static final int CALLS = 512;
+
+    /* An output up to so long is looked at whole, a longer one at so many places. */
+    private static final int LOOKS = 30;
+
+    /* The calls of a step and of the looks behind it, but for the text that a step types. */
+    private static final int STEP_CALLS = LOOKS + 12;
+
     private static final int[] BASES = {2, 3, 7, 8, 10, 10, 10, 10, 15, 16};
     private static final long[] LONGS = {0, 1, 2, 3, 10, (1L << 52) - 1, 1L << 52, (1L << 53) - 1, 1L << 53,
         (1L << 53) + 1, Long.MAX_VALUE, Long.MAX_VALUE - 511, Long.MAX_VALUE - 512, Long.MIN_VALUE, -1};
@@ -41,32 +48,38 @@ public final class RandomRunsTest {
         model = new Model();
         told = "run " + run + ":";
         calls = 0;
-        while (calls < CALLS) {
-            step();
+        String text = text();
+        while (calls + text.length() + STEP_CALLS <= CALLS) {
+            if (below(10) < 4) {
+                clear();
+                typeAll(text);
+                read();
+                text = text();
+            } else {
+                step();
+            }
             lookAtAll();
+        }
+        while (calls < CALLS) {
+            out(below(model.output().length() + 1));
         }
     }
 
     private void step() {
-        switch (below(10)) {
-            case 0: case 1: case 2: case 3:
-                clear();
-                typeAll(text());
-                read();
-                break;
-            case 4:
+        switch (below(6)) {
+            case 0:
                 make(below(2) == 0, someLong(), somePlace());
                 break;
-            case 5:
+            case 1:
                 divide(someLong(), someLong());
                 break;
-            case 6:
+            case 2:
                 due("exact()", object.exact() ? 1 : 0, model.exact() ? 1 : 0);
                 break;
-            case 7:
+            case 3:
                 due("inexact()", object.inexact() ? 1 : 0, model.inexact() ? 1 : 0);
                 break;
-            case 8:
+            case 4:
                 due("back()", object.back() ? 1 : 0, model.back() ? 1 : 0);
                 read();
                 break;
@@ -87,17 +100,30 @@ public final class RandomRunsTest {
         due("bits(true)", object.bits(true), model.bits(true));
         int base = below(8) == 0 ? below(24) - 3 : BASES[below(BASES.length)];
         due("write(" + base + ")", object.write(base), model.write(base));
-        // The whole output is looked at, beyond the count of calls: out changes nothing.
-        check.due(told + " output", Check.output(object), model.output());
+        int length = model.output().length();
+        for (int i = 0; i < Math.min(length + 1, LOOKS); i++) {
+            out(length < LOOKS ? i : below(length + 1));
+        }
+    }
+
+    private void out(int i) {
+        due("out(" + i + ")", object.out(i), model.out(i));
     }
 
     private void due(String call, long got, long want) {
-        calls++;
+        counted();
         check.due(told + " " + call, got, want);
     }
 
-    private void clear() {
+    private void counted() {
         calls++;
+        if (calls > CALLS) {
+            throw new IllegalStateException("the test makes more than " + CALLS + " calls of one object");
+        }
+    }
+
+    private void clear() {
+        counted();
         object.clear();
         model.clear();
     }

@@ -19,22 +19,22 @@ public final class ReadTest {
     }
 
     private static void exact(String text, String written) {
-        DoubleTexts x = Check.typed(text);
+        Subject x = Subject.typed(text);
         CHECK.due("read() of " + text, x.read(), 1);
         CHECK.due("kind() of " + text, x.kind(), 1);
-        CHECK.due("write(10) of " + text, Check.written(x, 10), written);
+        CHECK.due("write(10) of " + text, x.written(10), written);
         CHECK.due("negative() of " + text, x.negative(), written.startsWith("-"));
     }
 
     private static void inexact(String text, double value) {
-        DoubleTexts x = Check.typed(text);
+        Subject x = Subject.typed(text);
         CHECK.due("read() of " + text, x.read(), 2);
         CHECK.due("number of " + text, Check.told(x), Check.told(value));
     }
 
     private static void none(String text) {
-        DoubleTexts x = Check.having("-1.5");
-        Check.retype(x, text);
+        Subject x = Subject.having("-1.5");
+        x.retype(text);
         CHECK.due("read() of " + text, x.read(), 0);
         CHECK.due("number of " + text, Check.told(x), "0 false -1 0");
     }
@@ -179,8 +179,8 @@ public final class ReadTest {
         exact("#e10e-1234", "1/1" + "0".repeat(1233));
         exact("#e1" + "0".repeat(300) + "e-1533", "1/1" + "0".repeat(1233));
         exact("#e0." + "0".repeat(300) + "1e1534", "1" + "0".repeat(1233));
-        CHECK.due("bits of 10^1233", Check.having("#e1e1233").bits(false), 4096);
-        CHECK.due("bits of 10^-1233", Check.having("#e1e-1233").bits(true), 4096);
+        CHECK.due("bits of 10^1233", Subject.having("#e1e1233").bits(false), 4096);
+        CHECK.due("bits of 10^-1233", Subject.having("#e1e-1233").bits(true), 4096);
         String[] tooGreat = {"#e1e1234", "#e-1e1234", "#e1e-1234", "#e2e1233", "#e11e1232", "#e3e-1234", "#e1e9999",
             "#e1e-9999", "#e" + "9".repeat(390) + "e-9999", "#e." + "9".repeat(390) + "e9999", "#e1" + "0".repeat(300) + "e-1534"};
         for (String text : tooGreat) {
@@ -190,10 +190,10 @@ public final class ReadTest {
         none("#e1.0444e1233");
         // 2^1300 and 5^560 take many twos and fives from the denominator.
         String twos = BigInteger.TWO.pow(1300).toString();
-        CHECK.due("bits of 2^1300 / 10^1624", Check.having("#e" + twos + "e-1624").bits(true), 4095);
+        CHECK.due("bits of 2^1300 / 10^1624", Subject.having("#e" + twos + "e-1624").bits(true), 4095);
         none("#e" + twos + "e-1625");
         String fives = BigInteger.valueOf(5).pow(560).toString();
-        CHECK.due("bits of 5^560 / 10^1624", Check.having("#e" + fives + "e-1624").bits(true), 4095);
+        CHECK.due("bits of 5^560 / 10^1624", Subject.having("#e" + fives + "e-1624").bits(true), 4095);
         none("#e" + fives + "e-1625");
     }
 
@@ -209,7 +209,7 @@ public final class ReadTest {
         inexact("1" + "0".repeat(390) + "e-0690", 1e-300);
         inexact("." + "3".repeat(399), 0.33333333333333331);
         inexact("#i" + "3".repeat(198) + "/" + "1".repeat(198), 3);
-        DoubleTexts x = Check.typed("#x" + "F".repeat(398));
+        Subject x = Subject.typed("#x" + "F".repeat(398));
         CHECK.due("read() of 398 hex digits", x.read(), 1);
         CHECK.due("their bits", x.bits(false), 1592);
     }
@@ -231,6 +231,6 @@ public final class ReadTest {
     }
 
     private static void due(String text, int answer) {
-        CHECK.due("read() of " + text, Check.typed(text).read(), answer);
+        CHECK.due("read() of " + text, Subject.typed(text).read(), answer);
     }
 }

@@ -40,9 +40,17 @@ public final class ReadmeTest {
             }
             Matcher output = OUTPUT.matcher(call.group(4));
             if (output.find()) {
-                CHECK.due("output after " + line, Check.output(x), output.group(1));
+                CHECK.due("output after " + line, outputOf(x), output.group(1));
             }
         }
+    }
+
+    private static String outputOf(DoubleTexts x) {
+        StringBuilder all = new StringBuilder();
+        for (int code = x.out(0); code != -1; code = x.out(all.length())) {
+            all.append((char) code);
+        }
+        return all.toString();
     }
 
     /** The answer of the call that is told in words, null for a void one. */
@@ -88,7 +96,7 @@ public final class ReadmeTest {
             for (; quoted.find(); found++) {
                 boolean exact = quoted.group(1).startsWith("#e")
                     || !quoted.group(1).contains("#i") && !quoted.group(1).replace("#x", "").matches(".*[.eE].*");
-                CHECK.due("read() of " + quoted.group(1), Check.typed(quoted.group(1)).read(), exact ? 1 : 2);
+                CHECK.due("read() of " + quoted.group(1), Subject.typed(quoted.group(1)).read(), exact ? 1 : 2);
             }
         }
         CHECK.due("texts of the table", found > 0, true);
@@ -99,7 +107,7 @@ public final class ReadmeTest {
         Matcher quoted = QUOTED.matcher(list);
         int found = 0;
         for (; quoted.find(); found++) {
-            CHECK.due("write(10) of " + quoted.group(1), Check.written(Check.having(quoted.group(1)), 10), quoted.group(1));
+            CHECK.due("write(10) of " + quoted.group(1), Subject.having(quoted.group(1)).written(10), quoted.group(1));
         }
         CHECK.due("texts of the list", found > 0, true);
     }

@@ -7,41 +7,18 @@ import java.util.function.Consumer;
  * look changes what the next one sees and none goes beyond 512 calls.
  */
 record State(String number, String output, String text) {
-    private static final int PIECE = 80;
-
     static State after(Consumer<Subject> run) {
         String number = Subject.after(run).number() + ", in base 10 " + written(run, 10) + ", in base 16 " + written(run, 16);
         Subject longer = Subject.after(run);
         String length = longer.type('0') + " with one more";
         Consumer<Subject> reading = run.andThen(Subject::read);
         String told = Subject.after(reading).number() + " " + written(reading, 10);
-        return new State(number, outputAfter(run), length + ", reads " + told);
-    }
-
-    /** The output in pieces, as a long one takes more than 512 calls. */
-    static String outputAfter(Consumer<Subject> run) {
-        StringBuilder all = new StringBuilder();
-        int pieces = 0;
-        while (all.length() == pieces * PIECE) {
-            addPiece(all, Subject.after(run));
-            pieces++;
-        }
-        return all.toString();
-    }
-
-    private static void addPiece(StringBuilder all, Subject seen) {
-        for (int i = 0; i < PIECE; i++) {
-            long code = seen.out(all.length());
-            if (code == -1) {
-                return;
-            }
-            all.append((char) code);
-        }
+        return new State(number, Subject.after(run).output(), length + ", reads " + told);
     }
 
     private static String written(Consumer<Subject> run, int base) {
         long length = Subject.after(run).write(base);
-        return length == -1 ? "none" : length + " " + outputAfter(run.andThen(x -> x.write(base)));
+        return length == -1 ? "none" : length + " " + Subject.after(run.andThen(x -> x.write(base))).output();
     }
 
     /** A run for each kind of number there is; the text, the output and the number tell different numbers in each. */

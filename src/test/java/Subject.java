@@ -1,11 +1,17 @@
+import java.util.ArrayList;
+import java.util.List;
 import java.util.function.Consumer;
+import java.util.function.ToLongFunction;
 
 /** An object whose calls are counted: the document promises nothing after the 512th. A boolean is answered as 1 or 0. */
 final class Subject {
     static final int MOST_CALLS = 512;
 
+    /* Above any output there is: the look ends, even if the class has lost its end. */
+    private static final int LONGEST_LOOK = 10000;
+
     private final DoubleTexts object = new DoubleTexts();
-    private int calls = 0;
+    private final List<ToLongFunction<DoubleTexts>> made = new ArrayList<>();
 
     /** A new object, after the run of calls. */
     static Subject after(Consumer<Subject> run) {
@@ -14,84 +20,97 @@ final class Subject {
         return made;
     }
 
-    /** A new object that has read the text. */
-    static Subject having(String text) {
-        Subject made = new Subject();
-        made.retype(text);
-        made.read();
-        return made;
+    /** A new object that has the text. */
+    static Subject typed(String text) {
+        return after(x -> x.typeAll(text));
     }
 
-    private DoubleTexts counted() {
-        calls++;
-        if (calls > MOST_CALLS) {
+    /** A new object that has read the text. */
+    static Subject having(String text) {
+        return after(x -> {
+            x.retype(text);
+            x.read();
+        });
+    }
+
+    private long call(ToLongFunction<DoubleTexts> call) {
+        if (made.size() == MOST_CALLS) {
             throw new IllegalStateException("the test makes more than " + MOST_CALLS + " calls of one object");
         }
-        return object;
+        made.add(call);
+        return call.applyAsLong(object);
     }
 
     int calls() {
-        return calls;
+        return made.size();
+    }
+
+    /** A new object, after the same calls. */
+    private Subject again() {
+        return after(twin -> made.forEach(twin::call));
     }
 
     long type(int code) {
-        return counted().type(code);
+        return call(x -> x.type(code));
     }
 
     void clear() {
-        counted().clear();
+        call(x -> {
+            x.clear();
+            return 0;
+        });
     }
 
     long read() {
-        return counted().read();
+        return call(x -> x.read());
     }
 
     long make(boolean negative, long units, int place) {
-        return counted().make(negative, units, place) ? 1 : 0;
+        return call(x -> x.make(negative, units, place) ? 1 : 0);
     }
 
     long divide(long n, long d) {
-        return counted().divide(n, d) ? 1 : 0;
+        return call(x -> x.divide(n, d) ? 1 : 0);
     }
 
     long exact() {
-        return counted().exact() ? 1 : 0;
+        return call(x -> x.exact() ? 1 : 0);
     }
 
     long inexact() {
-        return counted().inexact() ? 1 : 0;
+        return call(x -> x.inexact() ? 1 : 0);
     }
 
     long kind() {
-        return counted().kind();
+        return call(x -> x.kind());
     }
 
     long negative() {
-        return counted().negative() ? 1 : 0;
+        return call(x -> x.negative() ? 1 : 0);
     }
 
     long units() {
-        return counted().units();
+        return call(x -> x.units());
     }
 
     long place() {
-        return counted().place();
+        return call(x -> x.place());
     }
 
     long bits(boolean denominator) {
-        return counted().bits(denominator);
+        return call(x -> x.bits(denominator));
     }
 
     long write(int base) {
-        return counted().write(base);
+        return call(x -> x.write(base));
     }
 
     long out(int i) {
-        return counted().out(i);
+        return call(x -> x.out(i));
     }
 
     long back() {
-        return counted().back() ? 1 : 0;
+        return call(x -> x.back() ? 1 : 0);
     }
 
     /** The text becomes this one. */
@@ -111,11 +130,15 @@ final class Subject {
         return kind() + " " + negative() + " " + units() + " " + place() + " " + bits(false) + " " + bits(true);
     }
 
-    /** The output, which is short. */
+    /** The output, up to the first character that is none, seen at objects after the same calls: a long one at several. */
     String output() {
         StringBuilder all = new StringBuilder();
-        for (long code = out(0); code != -1; code = out(all.length())) {
+        Subject seen = again();
+        for (long code = seen.out(0); code != -1 && all.length() < LONGEST_LOOK; code = seen.out(all.length())) {
             all.append((char) code);
+            if (seen.calls() == MOST_CALLS) {
+                seen = again();
+            }
         }
         return all.toString();
     }

@@ -440,11 +440,7 @@ public final class TermsEdgesTest {
         BigInteger next = most.add(BigInteger.ONE);
         EDGES.due("bits(false) of the greatest", Subject.having("#e" + most + "e850").bits(false), 4096);
         EDGES.due("bits(false) of the least", Subject.having("#e-" + most + "e850").bits(false), 4096);
-        EDGES.due("output in base 16", State.outputAfter(x -> {
-            x.retype("#e-" + most + "e850");
-            x.read();
-            x.write(16);
-        }), "-" + most.multiply(tens).toString(16));
+        EDGES.due("output in base 16", Subject.having("#e-" + most + "e850").written(16), "-" + most.multiply(tens).toString(16));
         EDGES.none("#e" + next + "e850");
         EDGES.none("#e-" + next + "e850");
         EDGES.none("#e" + next + "000e847");

@@ -53,9 +53,9 @@ public final class TextEdgesTest {
 
     private static void newObjectsShareNothing() {
         EDGES.sentence("No number, text and output empty.");
-        DoubleTexts used = Check.having("-1.5");
+        Subject used = Subject.having("-1.5");
         used.write(10);
-        DoubleTexts other = new DoubleTexts();
+        Subject other = new Subject();
         EDGES.due("kind() beside a used object", other.kind(), 0);
         EDGES.due("out(0) beside a used object", other.out(0), -1);
         EDGES.due("type('2') beside a used object", other.type('2'), 1);

@@ -109,20 +109,10 @@ public final class WriteEdgesTest {
         BigInteger most = BigInteger.ONE.shiftLeft(4096).divide(tens);
         BigInteger sevens = new BigInteger("7".repeat(380));
         for (int base = 2; base <= 16; base++) {
-            longOutput("#e-" + most + "e850", base, "-" + most.multiply(tens).toString(base));
-            longOutput("#e-" + sevens + "e-1233", base,
+            due("#e-" + most + "e850", base, "-" + most.multiply(tens).toString(base));
+            due("#e-" + sevens + "e-1233", base,
                 "-" + sevens.toString(base) + "/" + BigInteger.TEN.pow(1233).toString(base));
         }
-    }
-
-    private static void longOutput(String text, int base, String written) {
-        Consumer<Subject> run = x -> {
-            x.retype(text);
-            x.read();
-            x.write(base);
-        };
-        EDGES.due("write(" + base + ") of " + text, Subject.having(text).write(base), written.length());
-        EDGES.due("output of write(" + base + ") of " + text, State.outputAfter(run), written);
     }
 
     private static void namesOfDoubles() {

@@ -18,9 +18,9 @@ public final class WriteTest {
     }
 
     private static void due(String text, int base, String written) {
-        DoubleTexts x = Check.having(text);
+        Subject x = Subject.having(text);
         CHECK.due("length of " + text + " in base " + base, x.write(base), written.length());
-        CHECK.due("write(" + base + ") of " + text, Check.output(x), written);
+        CHECK.due("write(" + base + ") of " + text, x.output(), written);
     }
 
     private static void exactNumbers() {
@@ -98,9 +98,9 @@ public final class WriteTest {
         int[] wrong = {-1, 0, 1, 17, 36, -10, Integer.MIN_VALUE, Integer.MAX_VALUE};
         String[] texts = {"255", "-1/3", "1.5", "+inf.0", "-nan.0", "none"};
         for (String text : texts) {
-            DoubleTexts x = Check.having("77");
+            Subject x = Subject.having("77");
             x.write(10);
-            Check.retype(x, text);
+            x.retype(text);
             x.read();
             String before = Check.told(x);
             for (int base : wrong) {
@@ -111,7 +111,7 @@ public final class WriteTest {
                     CHECK.due("write(" + base + ") of " + text, x.write(base), -1);
                 }
             }
-            CHECK.due("output after write refused", Check.output(x), "77");
+            CHECK.due("output after write refused", x.output(), "77");
             CHECK.due("number after write refused", Check.told(x), before);
         }
     }
@@ -120,10 +120,10 @@ public final class WriteTest {
         if (Math.abs(value) > Double.MAX_VALUE) {
             return;
         }
-        DoubleTexts x = new DoubleTexts();
+        Subject x = new Subject();
         String[] told = Check.told(value).split(" ");
         x.make(told[1].equals("true"), Long.parseLong(told[2]), Integer.parseInt(told[3]));
-        CHECK.due("write(10) of " + value, Check.written(x, 10), Model.writtenDouble(value));
+        CHECK.due("write(10) of " + value, x.written(10), Model.writtenDouble(value));
         CHECK.due("number after write of " + value, Check.told(x), Check.told(value));
         x.back();
         x.read();
